@@ -1,0 +1,84 @@
+import java.util.NoSuchElementException;
+import java.util.function.LongSupplier;
+
+/** Collects the calls whose answers are not the ones that are due. */
+final class Due {
+    private int wrong = 0;
+    private int asked = 0;
+
+    void is(String call, long want, LongSupplier asking) {
+        asked++;
+        String got = outcome(asking);
+        if (!got.equals(Long.toString(want))) {
+            tell(call, got, Long.toString(want));
+        }
+    }
+
+    void runs(String call, Runnable asking) {
+        is(call, 0, counted(asking));
+    }
+
+    void illegal(String call, Runnable asking) {
+        fails(call, "throws.IllegalArgumentException", asking);
+    }
+
+    void badState(String call, Runnable asking) {
+        fails(call, "throws.IllegalStateException", asking);
+    }
+
+    void noElement(String call, Runnable asking) {
+        fails(call, "throws.NoSuchElementException", asking);
+    }
+
+    /** Swaps until nothing is carried; the number of entries carried is due, and nothing after them. */
+    void swaps(ForestTablets x, int carried) {
+        for (int i = 0; i < carried; i++) {
+            is("swap() " + (i + 1) + " of " + carried, 1, () -> x.swap() ? 1 : 0);
+        }
+        is("swap() with nothing left", 0, () -> x.swap() ? 1 : 0);
+    }
+
+    /** A whole meeting, that ends by part(). */
+    void meeting(ForestTablets x, int a, int b, int carried) {
+        runs("meet(" + a + ", " + b + ")", () -> x.meet(a, b));
+        swaps(x, carried);
+        runs("part()", x::part);
+    }
+
+    void end() {
+        System.out.println(asked + " answers looked at, " + wrong + " not as due");
+        if (wrong != 0) {
+            System.exit(1);
+        }
+    }
+
+    static String outcome(LongSupplier asking) {
+        try {
+            return Long.toString(asking.getAsLong());
+        } catch (IllegalArgumentException | IllegalStateException | NoSuchElementException e) {
+            return "throws." + e.getClass().getSimpleName();
+        } catch (RuntimeException e) {
+            return "throws by itself " + e;
+        }
+    }
+
+    static LongSupplier counted(Runnable asking) {
+        return () -> {
+            asking.run();
+            return 0;
+        };
+    }
+
+    private void fails(String call, String want, Runnable asking) {
+        asked++;
+        String got = outcome(counted(asking));
+        if (!got.equals(want)) {
+            tell(call, got, want);
+        }
+    }
+
+    void tell(String call, String got, String want) {
+        wrong++;
+        System.out.println(call + " answered " + got + ", due is " + want);
+    }
+}
