@@ -16,6 +16,7 @@ public final class EntriesTest {
         knowingIsNotHandedOn();
         resolveEndsAConflict();
         resolveOutranksOldRanks();
+        resolveOutranksAnAuthorsOlderRank();
         resolveAgainstALaterStray();
         resolveWrongInputs();
         resolveEndsAtFortyEntries();
@@ -239,6 +240,31 @@ public final class EntriesTest {
         due.is("it outranks the holder's", 2, () -> x.candidate(1, 1, 1, 1, 0));
         due.is("the holder's is a stray", 1102, () -> x.candidate(1, 1, 1, 1, 1));
         due.is("no more", -1, () -> x.candidate(1, 1, 1, 1, 2));
+    }
+
+    /** The greatest rank is of a value that its own author has replaced by one of rank 0. */
+    private static void resolveOutranksAnAuthorsOlderRank() {
+        ForestTablets x = new ForestTablets();
+        x.lend(1, 1);
+        due.meeting(x, 0, 1, 1);
+        x.enter(1, 1, 1, 1, 10);
+        x.giveBack(1, 1);
+        x.enter(1, 1, 1, 1, 15);
+        x.enter(2, 1, 1, 1, 20);
+        due.meeting(x, 1, 0, 3);
+        due.meeting(x, 2, 0, 5);
+        due.is("lend to 3", 2, () -> x.lend(1, 3));
+        due.meeting(x, 0, 3, 6);
+        due.is("conflict of rank 0", 111, () -> x.conflict(0, 0));
+        due.is("resolve, one above rank 1", 3, () -> x.resolve(0, 30));
+        due.is("enter with rank 2", 1, () -> x.enter(3, 1, 1, 1, 40));
+        due.meeting(x, 0, 3, 2);
+        due.is("both have rank 2", 3, () -> x.candidate(3, 1, 1, 1, 0));
+        due.is("both have rank 2", 301, () -> x.candidate(3, 1, 1, 1, 1));
+        due.is("no more", -1, () -> x.candidate(3, 1, 1, 1, 2));
+        due.is("in conflict again", 111, () -> x.conflict(0, 0));
+        due.is("resolve, one above rank 2", 4, () -> x.resolve(0, 50));
+        due.is("solved", -1, () -> x.conflict(0, 0));
     }
 
     private static void resolveAgainstALaterStray() {

@@ -13,6 +13,8 @@ public final class ModelTest {
     /** Few places make conflicts, many make whole trees. */
     private final int plots;
     private final int trees;
+    /** In some runs one device enters most, and comes to its fortieth entry. */
+    private final int busy;
     private int wrong = 0;
     private int calls = 0;
 
@@ -21,6 +23,7 @@ public final class ModelTest {
         this.random = new Random(run);
         this.plots = 1 + random.nextInt(6);
         this.trees = 1 + random.nextInt(4);
+        this.busy = random.nextInt(10) - 5;
     }
 
     public static void main(String[] args) {
@@ -36,8 +39,11 @@ public final class ModelTest {
 
     private int goThrough() {
         while (calls < CALLS && wrong == 0) {
-            if (random.nextInt(100) < 60) {
+            int luck = random.nextInt(100);
+            if (luck < 40) {
                 change();
+            } else if (luck < 46) {
+                wholeMeeting(near(5), near(5));
             } else {
                 ask();
             }
@@ -45,24 +51,32 @@ public final class ModelTest {
         return wrong;
     }
 
+    private void wholeMeeting(int a, int b) {
+        same("meet " + a + " " + b, Due.counted(() -> x.meet(a, b)), Due.counted(() -> model.meet(a, b)));
+        for (int i = random.nextInt(20); i >= 0; i--) {
+            same("swap", () -> x.swap() ? 1 : 0, () -> model.swap() ? 1 : 0);
+        }
+        same("part", Due.counted(x::part), Due.counted(model::part));
+    }
+
     private void change() {
-        int d = near(5);
+        int d = busy >= 0 && random.nextInt(4) > 0 ? busy : near(5);
         int p = near(plots);
         int t = near(trees);
         int f = near(3);
         int v = someValue(f);
         int what = random.nextInt(100);
-        if (what < 30) {
+        if (what < (busy >= 0 ? 45 : 30)) {
             same("enter " + d + " " + p + " " + t + " " + f + " " + v,
                 () -> x.enter(d, p, t, f, v), () -> model.enter(d, p, t, f, v));
-        } else if (what < 38) {
+        } else if (what < 48) {
             same("lend " + p + " " + d, () -> x.lend(p, d), () -> model.lend(p, d));
-        } else if (what < 42) {
+        } else if (what < 53) {
             same("giveBack " + d + " " + p, () -> x.giveBack(d, p), () -> model.giveBack(d, p));
-        } else if (what < 50) {
+        } else if (what < 60) {
             int i = random.nextInt(4) - 1;
             same("resolve " + i + " " + v, () -> x.resolve(i, v), () -> model.resolve(i, v));
-        } else if (what < 60) {
+        } else if (what < 68) {
             int b = near(5);
             same("meet " + d + " " + b, Due.counted(() -> x.meet(d, b)), Due.counted(() -> model.meet(d, b)));
         } else if (what < 85) {
