@@ -3,6 +3,11 @@ import java.util.function.LongSupplier;
 
 /** Collects the calls whose answers are not the ones that are due. */
 final class Due {
+    /** A call with one of its arguments left open. */
+    interface Asked {
+        long with(int argument);
+    }
+
     private int wrong = 0;
     private int asked = 0;
 
@@ -43,6 +48,37 @@ final class Due {
         runs("meet(" + a + ", " + b + ")", () -> x.meet(a, b));
         swaps(x, carried);
         runs("part()", x::part);
+    }
+
+    /**
+     * All that lies from the least to the greatest answers what is due; what lies beside, up to the least and the
+     * greatest int, is refused.
+     */
+    void bounds(String call, int least, int greatest, Asked want, Asked asking) {
+        for (int i = least; i <= greatest; i++) {
+            int good = i;
+            is(call + " with " + good, want.with(good), () -> asking.with(good));
+        }
+        for (int bad : beside(least, greatest)) {
+            illegal(call + " with " + bad, () -> asking.with(bad));
+        }
+    }
+
+    /** The same for an argument that may be anything from 0 on. */
+    void from0(String call, Asked want, Asked asking) {
+        for (int good : new int[] {0, 1, 2, 3, 4, 5, 72, 256, 65536, 1 << 30, Integer.MAX_VALUE}) {
+            is(call + " with " + good, want.with(good), () -> asking.with(good));
+        }
+        for (int bad : new int[] {-1, -2, -256, -65536, -(1 << 30), Integer.MIN_VALUE + 1, Integer.MIN_VALUE}) {
+            illegal(call + " with " + bad, () -> asking.with(bad));
+        }
+    }
+
+    /** The neighbours, the ends of int, and what has the low bits of a good value or wraps around to one. */
+    static int[] beside(int least, int greatest) {
+        return new int[] {Integer.MIN_VALUE, Integer.MIN_VALUE + least, -(1 << 30), -65536, -256, least - 1,
+            greatest + 1, least + 4096, least + 65536, least + (1 << 28), least + (1 << 30),
+            Integer.MAX_VALUE - 1, Integer.MAX_VALUE};
     }
 
     void end() {
