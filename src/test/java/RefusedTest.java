@@ -30,7 +30,8 @@ public final class RefusedTest {
         look("entries, lends and a conflict", RefusedTest::someEntries, withSomeEntries());
         look("a meeting of tablets", RefusedTest::inAMeetingOfTablets, inAMeeting());
         look("a meeting of the office", RefusedTest::inAMeetingOfTheOffice, inAMeeting());
-        look("forty entries", RefusedTest::withFortyEntries, atFortyEntries());
+        look("forty entries", RefusedTest::withFortyEntries, withoutAMeetingAtFortyEntries());
+        look("forty entries in a meeting", RefusedTest::withFortyEntriesInAMeeting, atFortyEntries());
         due.end();
     }
 
@@ -155,8 +156,14 @@ public final class RefusedTest {
         return all;
     }
 
-    private static List<Refused> atFortyEntries() {
+    private static List<Refused> withoutAMeetingAtFortyEntries() {
         List<Refused> all = withoutAMeeting();
+        all.addAll(atFortyEntries());
+        return all;
+    }
+
+    private static List<Refused> atFortyEntries() {
+        List<Refused> all = new ArrayList<>();
         all.add(new Refused("lend at 40", BAD_STATE, x -> x.lend(5, 1)));
         all.add(new Refused("lend of a lent plot at 40", BAD_STATE, x -> x.lend(0, 1)));
         all.add(new Refused("enter at 40, office", BAD_STATE, x -> x.enter(0, 0, 0, 1, 99)));
@@ -164,6 +171,7 @@ public final class RefusedTest {
         all.add(new Refused("giveBack at 40", BAD_STATE, x -> x.giveBack(1, 0)));
         all.add(new Refused("resolve at 40", BAD_STATE, x -> x.resolve(0, 33)));
         all.add(new Refused("resolve nothing at 40", NO_ELEMENT, x -> x.resolve(1, 33)));
+        illegal(all, "resolve to 9 at 40", x -> x.resolve(0, 9));
         return all;
     }
 
@@ -239,6 +247,16 @@ public final class RefusedTest {
         World.meeting(x, 0, 1);
         World.fill(x, 0, 40);
         World.fill(x, 1, 40);
+        return x;
+    }
+
+    /** The same two meet, and neither has kept what the other one gave. */
+    private static ForestTablets withFortyEntriesInAMeeting() {
+        ForestTablets x = withFortyEntries();
+        x.meet(1, 0);
+        for (int swaps = 0; swaps < 60 && x.known(1, 0) < 3; swaps++) {
+            x.swap();
+        }
         return x;
     }
 
