@@ -12,10 +12,13 @@ final class Due {
     private int asked = 0;
 
     void is(String call, long want, LongSupplier asking) {
+        same(call, outcome(asking), Long.toString(want));
+    }
+
+    void same(String call, String got, String want) {
         asked++;
-        String got = outcome(asking);
-        if (!got.equals(Long.toString(want))) {
-            tell(call, got, Long.toString(want));
+        if (!got.equals(want)) {
+            tell(call, got, want);
         }
     }
 
@@ -106,11 +109,7 @@ final class Due {
     }
 
     private void fails(String call, String want, Runnable asking) {
-        asked++;
-        String got = outcome(counted(asking));
-        if (!got.equals(want)) {
-            tell(call, got, want);
-        }
+        same(call, outcome(counted(asking)), want);
     }
 
     void tell(String call, String got, String want) {
